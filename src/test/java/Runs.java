@@ -1,0 +1,183 @@
+import java.util.ArrayList;
+import java.util.List;
+
+/**
+ * Runs of calls on fresh objects, written as text: a line is a call with its arguments and, behind
+ * ->, the answer that is due. A void call without -> has to return. An exception is written by
+ * its capitals (ISE, IAE, IOOBE), and a call that throws must leave all that can be asked as it was.
+ *
+ * <p>Beside the calls of the face there are: text T (types T), plan T (types T and submits),
+ * states (of all activities), all I (all of one activity), levels (all three), times N CALL.
+ */
+final class Runs {
+    private final String name;
+    private int checked;
+    private int wrong;
+
+    Runs(String name) {
+        this.name = name;
+    }
+
+    void run(String title, String lines) {
+        RoverMinutes rover = new RoverMinutes();
+        int number = 0;
+        for (String raw : lines.split("\n")) {
+            String line = raw.strip();
+            number++;
+            if (!line.isEmpty() && !line.startsWith("#")) {
+                check(rover, title + ", line " + number, line);
+            }
+        }
+    }
+
+    void due(String what, Object got, Object want) {
+        checked++;
+        if (!String.valueOf(got).equals(String.valueOf(want))) {
+            wrong++;
+            System.out.println(name + ": " + what + " answered " + got + ", due is " + want);
+        }
+    }
+
+    void end() {
+        System.out.println(name + ": " + checked + " answers looked at, " + wrong + " not as due");
+        if (wrong != 0 || checked == 0) {
+            System.exit(1);
+        }
+    }
+
+    private void check(RoverMinutes rover, String where, String line) {
+        int arrow = line.lastIndexOf(" -> ");
+        String call = arrow < 0 ? line : line.substring(0, arrow).strip();
+        String want = arrow < 0 ? "ok" : line.substring(arrow + 4).strip();
+        String before = allOf(rover);
+        String got = answer(rover, call);
+        due(where + ": " + call, got, want);
+        if (got.equals("ISE") || got.equals("IAE") || got.equals("IOOBE")) {
+            due(where + ": the state behind the refused " + call, allOf(rover), before);
+        }
+    }
+
+    static String answer(RoverMinutes rover, String call) {
+        try {
+            return call(rover, call);
+        } catch (RuntimeException e) {
+            return shortName(e);
+        }
+    }
+
+    private static String shortName(RuntimeException e) {
+        return e.getClass().getSimpleName().replaceAll("[a-z]", "");
+    }
+
+    private static String call(RoverMinutes rover, String call) {
+        int space = call.indexOf(' ');
+        String verb = space < 0 ? call : call.substring(0, space);
+        String rest = space < 0 ? "" : call.substring(space + 1);
+        switch (verb) {
+            case "text":
+                return typeAll(rover, rest);
+            case "plan":
+                String typed = typeAll(rover, rest);
+                return typed.equals("ok") ? String.valueOf(rover.submit()) : "typed " + typed;
+            case "states":
+                return join(rover, rover.activities(), (r, i) -> r.activity(i, 0));
+            case "all":
+                int one = Integer.parseInt(rest);
+                return join(rover, 6, (r, what) -> r.activity(one, what));
+            case "levels":
+                return join(rover, 3, RoverMinutes::level);
+            case "times":
+                int gap = rest.indexOf(' ');
+                String last = "none";
+                for (int k = Integer.parseInt(rest.substring(0, gap)); k > 0; k--) {
+                    last = call(rover, rest.substring(gap + 1));
+                }
+                return last;
+            default:
+                return face(rover, verb, numbers(rest));
+        }
+    }
+
+    private static String face(RoverMinutes rover, String verb, int[] n) {
+        switch (verb) {
+            case "type": return String.valueOf(rover.type(n[0]));
+            case "submit": return String.valueOf(rover.submit());
+            case "enable": return String.valueOf(rover.enable());
+            case "cancel": rover.cancel(); return "ok";
+            case "minutes": return String.valueOf(rover.minutes(n[0]));
+            case "lasts": rover.lasts(n[0], n[1]); return "ok";
+            case "draws": rover.draws(n[0], n[1]); return "ok";
+            case "curve": rover.curve(n[0], n[1]); return "ok";
+            case "gain": rover.gain(n[0]); return "ok";
+            case "home": rover.home(n[0], n[1]); return "ok";
+            case "fill": rover.fill(n[0], n[1]); return "ok";
+            case "now": return String.valueOf(rover.now());
+            case "mode": return String.valueOf(rover.mode());
+            case "level": return String.valueOf(rover.level(n[0]));
+            case "reserve": return String.valueOf(rover.reserve());
+            case "activities": return String.valueOf(rover.activities());
+            case "activity": return String.valueOf(rover.activity(n[0], n[1]));
+            case "lowest": return String.valueOf(rover.lowest());
+            case "could": return String.valueOf(rover.could(n[0]));
+            default: return "no such call";
+        }
+    }
+
+    private static int[] numbers(String rest) {
+        if (rest.isBlank()) {
+            return new int[0];
+        }
+        String[] words = rest.strip().split(" +");
+        int[] numbers = new int[words.length];
+        for (int k = 0; k < words.length; k++) {
+            numbers[k] = Long.decode(words[k]).intValue();
+        }
+        return numbers;
+    }
+
+    /** Four characters a call, the last call with what is left. */
+    static List<Integer> fours(String text) {
+        List<Integer> fours = new ArrayList<>();
+        for (int from = 0; from < text.length(); from += 4) {
+            int four = 0;
+            for (int k = 0; k < 4 && from + k < text.length(); k++) {
+                four |= text.charAt(from + k) << (8 * k);
+            }
+            fours.add(four);
+        }
+        return fours;
+    }
+
+    private static String typeAll(RoverMinutes rover, String text) {
+        for (int four : fours(text)) {
+            if (!rover.type(four)) {
+                return "no room";
+            }
+        }
+        return "ok";
+    }
+
+    private interface Question {
+        int ask(RoverMinutes rover, int which);
+    }
+
+    private static String join(RoverMinutes rover, int n, Question question) {
+        StringBuilder all = new StringBuilder();
+        for (int k = 0; k < n; k++) {
+            all.append(k == 0 ? "" : " ").append(question.ask(rover, k));
+        }
+        return all.toString();
+    }
+
+    /** All that can be asked, but for the line and what was said. */
+    static String allOf(RoverMinutes rover) {
+        StringBuilder all = new StringBuilder();
+        all.append("now ").append(rover.now()).append(" mode ").append(rover.mode());
+        all.append(" levels ").append(call(rover, "levels"));
+        all.append(" reserve ").append(rover.reserve()).append(" lowest ").append(rover.lowest());
+        for (int i = 0; i < rover.activities(); i++) {
+            all.append(" [").append(call(rover, "all " + i)).append(' ').append(rover.could(i)).append(']');
+        }
+        return all.toString();
+    }
+}
