@@ -330,19 +330,15 @@ public final class RoverMinutes {
         /** Answers 0, or 1 more than the place at which the line is no plan. */
         int read(Plan plan) {
             at = 0;
-            plan.clear();
             for (int i = 0; i < Plan.MOST; i++) {
                 Activity one = plan.members[i];
                 one.clear();
-                if (!readTimes(one, (char) ('a' + i)) || !readOptions(one)) {
+                if (i > 0 && !take(';') || !readTimes(one, (char) ('a' + i)) || !readOptions(one)) {
                     return at + 1;
                 }
                 plan.count = i + 1;
                 if (at == line.length) {
                     return 0;
-                }
-                if (plan.count == Plan.MOST || !take(';')) {
-                    return at + 1;
                 }
             }
             return at + 1;
@@ -503,7 +499,7 @@ public final class RoverMinutes {
             saidDraw = NONE;
         }
 
-        /** Leaves what is said for the next start: only that start or another plan ends it. */
+        /** Begins anew, but leaves what is said for the next start: only that start or another plan ends it. */
         void makeReady() {
             state = WAITING;
             startedIn = NONE;
@@ -578,10 +574,6 @@ public final class RoverMinutes {
             for (int i = 0; i < MOST; i++) {
                 members[i] = new Activity();
             }
-        }
-
-        void clear() {
-            count = 0;
         }
 
         boolean has(int i) {
@@ -877,12 +869,9 @@ public final class RoverMinutes {
         }
 
         boolean holds(Supply supply, int minute) {
-            return heat <= MOST_HEAT
-                && supply.store + data <= Supply.MOST_STORE
-                && leavesWayHome(supply, minute);
-        }
-
-        private boolean leavesWayHome(Supply supply, int minute) {
+            if (heat > MOST_HEAT || supply.store + data > Supply.MOST_STORE) {
+                return false;
+            }
             int ahead = supply.energy;
             boolean open = supply.isOpen(ahead, minute);
             for (int k = 1; k <= length && open; k++) {

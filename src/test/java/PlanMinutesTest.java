@@ -301,6 +301,14 @@ public final class PlanMinutesTest {
             states -> 2 2 2 4
             mode -> 0
             """);
+        RUNS.run("a latest start of 0", """
+            plan a1-1<0;b1-1<0;c9-9D99<0;d1-1/c -> 0
+            minutes 5 -> 0
+            enable -> 2
+            states -> 1 1 0 0
+            minutes 1 -> 1
+            states -> 2 2 4 1
+            """);
         RUNS.run("a stopped one can be too late", """
             plan a1-1<1*3 -> 0
             lasts 0 2

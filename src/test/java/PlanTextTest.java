@@ -336,10 +336,34 @@ public final class PlanTextTest {
             activities -> 1
             all 0 -> 0 -1 0 2 0 0
             mode -> 0
-            plan a1-1E9;b1-1 -> 0
-            plan a1-1;b1-1 -> 0
+            """);
+        RUNS.run("nothing is left of plans before", """
+            plan a1-4E9D9H9<0*1/b;b1-4;c1-4>a -> 0
+            plan a1-4E9D9H9<0*1/b;b1-4;c1-4>a -> 0
+            plan a1-4;b1-4>a;c1-4 -> 0
+            all 0 -> 0 -1 0 0 0 0
             enable -> 2
-            lowest -> 990
+            lowest -> 1000
+            minutes 3 -> 0
+            states -> 1 0 1
+            levels -> 1000 0 0
+            minutes 1 -> 1
+            states -> 2 1 2
+            minutes 4 -> 0
+            plan a1-1 -> 0
+            plan a1-1 -> 0
+            enable -> 1
+            minutes 1 -> 0
+            mode -> 0
+            """);
+        RUNS.run("nothing is left of lines before", """
+            plan a1-1>b;b1-1 -> 0
+            plan a1-1> -> 6
+            plan a1-11E55;b1-1 -> 0
+            plan a1-1 -> 0
+            plan a1- -> 4
+            plan a -> 2
+            submit -> 1
             """);
     }
 

@@ -1,4 +1,6 @@
+import java.lang.reflect.InvocationTargetException;
 import java.util.ArrayList;
+import java.util.Arrays;
 import java.util.List;
 
 /**
@@ -65,7 +67,7 @@ final class Runs {
         }
     }
 
-    private static String shortName(RuntimeException e) {
+    private static String shortName(Throwable e) {
         return e.getClass().getSimpleName().replaceAll("[a-z]", "");
     }
 
@@ -98,28 +100,18 @@ final class Runs {
         }
     }
 
-    private static String face(RoverMinutes rover, String verb, int[] n) {
-        switch (verb) {
-            case "type": return String.valueOf(rover.type(n[0]));
-            case "submit": return String.valueOf(rover.submit());
-            case "enable": return String.valueOf(rover.enable());
-            case "cancel": rover.cancel(); return "ok";
-            case "minutes": return String.valueOf(rover.minutes(n[0]));
-            case "lasts": rover.lasts(n[0], n[1]); return "ok";
-            case "draws": rover.draws(n[0], n[1]); return "ok";
-            case "curve": rover.curve(n[0], n[1]); return "ok";
-            case "gain": rover.gain(n[0]); return "ok";
-            case "home": rover.home(n[0], n[1]); return "ok";
-            case "fill": rover.fill(n[0], n[1]); return "ok";
-            case "now": return String.valueOf(rover.now());
-            case "mode": return String.valueOf(rover.mode());
-            case "level": return String.valueOf(rover.level(n[0]));
-            case "reserve": return String.valueOf(rover.reserve());
-            case "activities": return String.valueOf(rover.activities());
-            case "activity": return String.valueOf(rover.activity(n[0], n[1]));
-            case "lowest": return String.valueOf(rover.lowest());
-            case "could": return String.valueOf(rover.could(n[0]));
-            default: return "no such call";
+    /** A call of the face by its name and numbers, on a rover or on whatever has the same methods. */
+    static String face(Object target, String verb, int[] numbers) {
+        Class<?>[] types = new Class<?>[numbers.length];
+        Arrays.fill(types, int.class);
+        Object[] values = Arrays.stream(numbers).boxed().toArray();
+        try {
+            Object answer = target.getClass().getDeclaredMethod(verb, types).invoke(target, values);
+            return answer == null ? "ok" : answer.toString();
+        } catch (InvocationTargetException e) {
+            return shortName(e.getCause());
+        } catch (ReflectiveOperationException e) {
+            return "no such call";
         }
     }
 
