@@ -6,10 +6,15 @@ import java.util.List;
 /**
  * Runs of calls on fresh objects, written as text: a line is a call with its arguments and, behind
  * ->, the answer that is due. A void call without -> has to return. An exception is written by
- * its capitals (ISE, IAE, IOOBE), and a call that throws must leave all that can be asked as it was.
+ * its capitals (ISE, IAE, IOOBE).
+ *
+ * <p>A call is refused when it throws or when type answers false: two more objects, one with that
+ * call and one without, have to go on alike then, so that it left even the line, what was said, the
+ * curve, the gain and the return as they were.
  *
  * <p>Beside the calls of the face there are: text T (types T), plan T (types T and submits),
- * states (of all activities), all I (all of one activity), levels (all three), times N CALL.
+ * room (how many characters the line still takes, and takes them), states (of all activities),
+ * all I (all of one activity), levels (all three), times N CALL.
  */
 final class Runs {
     private final String name;
@@ -22,12 +27,13 @@ final class Runs {
 
     void run(String title, String lines) {
         RoverMinutes rover = new RoverMinutes();
+        List<String> calls = new ArrayList<>();
         int number = 0;
         for (String raw : lines.split("\n")) {
             String line = raw.strip();
             number++;
             if (!line.isEmpty() && !line.startsWith("#")) {
-                check(rover, title + ", line " + number, line);
+                check(rover, calls, title + ", line " + number, line);
             }
         }
     }
@@ -47,16 +53,56 @@ final class Runs {
         }
     }
 
-    private void check(RoverMinutes rover, String where, String line) {
+    private void check(RoverMinutes rover, List<String> calls, String where, String line) {
         int arrow = line.lastIndexOf(" -> ");
         String call = arrow < 0 ? line : line.substring(0, arrow).strip();
         String want = arrow < 0 ? "ok" : line.substring(arrow + 4).strip();
-        String before = allOf(rover);
         String got = answer(rover, call);
         due(where + ": " + call, got, want);
-        if (got.equals("ISE") || got.equals("IAE") || got.equals("IOOBE")) {
-            due(where + ": the state behind the refused " + call, allOf(rover), before);
+        List<String> before = List.copyOf(calls);
+        calls.add(call);
+        if (got.matches("ISE|IAE|IOOBE") || got.equals("false") && call.startsWith("type ")) {
+            due(where + ": the state behind the refused " + call, allOf(again(calls)), allOf(again(before)));
+            due(where + ": the line behind the refused " + call, lineOf(calls), lineOf(before));
+            due(where + ": what follows the refused " + call, future(again(calls)), future(again(before)));
         }
+    }
+
+    private static RoverMinutes again(List<String> calls) {
+        RoverMinutes rover = new RoverMinutes();
+        for (String call : calls) {
+            answer(rover, call);
+        }
+        return rover;
+    }
+
+    /** How long the line is, and what comes of it as soon as it can be submitted. */
+    private static String lineOf(List<String> calls) {
+        RoverMinutes rover = again(calls);
+        rest(rover);
+        return answer(again(calls), "room") + " " + rover.submit() + " " + nextHour(rover);
+    }
+
+    /** The next minute, and the next enabling, which shows what is said. */
+    private static String future(RoverMinutes rover) {
+        String next = answer(rover, "minutes 1") + " " + allOf(rover);
+        rest(rover);
+        return next + " " + nextHour(rover);
+    }
+
+    private static void rest(RoverMinutes rover) {
+        answer(rover, "cancel");
+        answer(rover, "minutes 20");
+    }
+
+    private static String nextHour(RoverMinutes rover) {
+        StringBuilder told = new StringBuilder(answer(rover, "fill 1000 0"));
+        told.append(' ').append(rover.reserve()).append(' ').append(answer(rover, "enable"));
+        for (int k = 0; k < 45; k++) {
+            told.append(' ').append(rover.minutes(1)).append(' ').append(rover.mode());
+            told.append(' ').append(rover.level(0)).append(' ').append(rover.level(1));
+        }
+        return told.append(' ').append(allOf(rover)).toString();
     }
 
     static String answer(RoverMinutes rover, String call) {
@@ -81,6 +127,12 @@ final class Runs {
             case "plan":
                 String typed = typeAll(rover, rest);
                 return typed.equals("ok") ? String.valueOf(rover.submit()) : "typed " + typed;
+            case "room":
+                int room = 0;
+                while (room < 99 && rover.type('~')) {
+                    room++;
+                }
+                return String.valueOf(room);
             case "states":
                 return join(rover, rover.activities(), (r, i) -> r.activity(i, 0));
             case "all":
